@@ -179,7 +179,12 @@ public final class WireHost {
         return t >= 0 && t < TEXTS;
     }
 
-    /** The frame that is arriving. */
+    // A sum of 2^unit, since assembly() answers units so and sets of them are compared at once.
+    private static int unitsUpTo(int octets) {
+        int units = (octets + UNIT - 1) / UNIT;
+        return (1 << units) - 1;
+    }
+
     private static final class Arrival {
         final int[] octets = new int[FRAME_ROOM];
         int length;
@@ -240,19 +245,12 @@ public final class WireHost {
             return UNIT * unit() + size();
         }
 
-        /** The units of the fragment, as the sum of 2^unit. */
         int units() {
-            return firstUnits(size()) << unit();
+            return unitsUpTo(size()) << unit();
         }
     }
 
-    /** The units that so many octets fill from the beginning, the last one perhaps cut. */
-    private static int firstUnits(int octets) {
-        int units = (octets + UNIT - 1) / UNIT;
-        return (1 << units) - 1;
-    }
-
-    /** A datagram that is whole. */
+    // One object takes every whole datagram in turn, so that no call makes a new one.
     private static final class Datagram {
         final int[] payload = new int[PAYLOAD_ROOM];
         int source, protocol, length;
@@ -329,7 +327,7 @@ public final class WireHost {
         }
 
         boolean isComplete() {
-            return end >= 0 && units == firstUnits(end);
+            return end >= 0 && units == unitsUpTo(end);
         }
 
         int tell(int what) {
@@ -347,7 +345,6 @@ public final class WireHost {
         }
     }
 
-    /** The assemblies, which make whole datagrams of fragments. */
     private static final class Gathering {
         final Assembly[] all = new Assembly[ASSEMBLIES];
         private int newest;
@@ -358,10 +355,9 @@ public final class WireHost {
             }
         }
 
-        /** Takes the frame in: whether a datagram is whole by it, which then stands in d. */
-        boolean completes(Arrival f, Datagram d) {
+        boolean completes(Arrival f, Datagram whole) {
             if (f.isWhole()) {
-                d.fill(f.octets[SOURCE], f.octets[PROTOCOL], f.octets, PAYLOAD, f.size());
+                whole.fill(f.octets[SOURCE], f.octets[PROTOCOL], f.octets, PAYLOAD, f.size());
                 return true;
             }
             Assembly a = all[placeFor(f)];
@@ -374,7 +370,7 @@ public final class WireHost {
                 return false;
             }
             a.inUse = false;
-            d.fill(a.source, a.protocol, a.octets, 0, a.end);
+            whole.fill(a.source, a.protocol, a.octets, 0, a.end);
             return true;
         }
 
@@ -407,7 +403,6 @@ public final class WireHost {
         }
     }
 
-    /** What goes out: the stations that are known, and the frames that were sent latest. */
     private static final class Wire {
         final int[] stations = new int[ADDRESSES];
         private final int[][] frames = new int[FRAMES_KEPT][LONGEST_FRAME];
@@ -523,7 +518,7 @@ public final class WireHost {
             return before;
         }
 
-        /** Whether the name is what stands in a line between its first octet and its end. */
+        // The name stands in the line between its first octet and its end.
         boolean isAskedBy(int[] line, int lineLength) {
             if (nameLength != lineLength - 2) {
                 return false;
@@ -545,7 +540,7 @@ public final class WireHost {
         }
     }
 
-    /** The texts, and the answer to the line that was read latest. */
+    // The answer is written before it is known whether OUT has room for it, so it has a row of its own.
     private static final class Shelf {
         final Text[] texts = new Text[TEXTS];
         final int[] answer = new int[BODY_ROOM + 2];
@@ -638,8 +633,7 @@ public final class WireHost {
             sent = (sent + numbers) & 255;
         }
 
-        /** A tick goes by: whether the timer has come to its end. */
-        boolean passTick() {
+        boolean tickEndsTimer() {
             if (state == GONE || first == sent) {
                 return false;
             }
@@ -677,7 +671,7 @@ public final class WireHost {
             }
         }
 
-        /** Takes a segment with ACK: whether it may be answered. */
+        // False if nothing more is to be done: it is gone, or still opening.
         boolean follow(Datagram d) {
             acknowledge(d.payload[ACK_NUMBER]);
             if (state == GONE) {
@@ -708,7 +702,7 @@ public final class WireHost {
             }
         }
 
-        /** The length of the line with which IN begins, 0 if there is none yet. */
+        // 0 if IN begins with no line yet.
         int lineLength() {
             int seen = Math.min(inLength, LINE_ROOM);
             for (int i = 0; i < seen; i++) {
@@ -727,8 +721,8 @@ public final class WireHost {
             outLength += answerLength;
         }
 
-        /** How many octets of OUT the next segment may have. */
-        int sendable() {
+        // WINDOW may have become less than what is on the way, and then nothing may be sent.
+        int nextSegmentSize() {
             int allowed = Math.min(window, SEGMENT_DATA * pace) - onTheWay();
             int waiting = outLength - onTheWay();
             return Math.max(0, Math.min(SEGMENT_DATA, Math.min(allowed, waiting)));
@@ -758,7 +752,6 @@ public final class WireHost {
             return state == GONE ? 0 : answer;
         }
 
-        /** Takes the first ones out of a row: how many are left. */
         private static int removeFirst(int[] row, int length, int removed) {
             int left = length - removed;
             for (int i = 0; i < left; i++) {
@@ -768,7 +761,6 @@ public final class WireHost {
         }
     }
 
-    /** The streams, with what they answer from and the wire that they send on. */
     private static final class Streams {
         final Stream[] all = new Stream[STREAMS];
         final Wire wire = new Wire();
@@ -785,7 +777,7 @@ public final class WireHost {
         void take(Datagram d, int time) {
             Stream s = find(d.source, d.payload[PORT]);
             if (s == null) {
-                meet(d, time);
+                meetStranger(d, time);
             } else if (d.hasFlag(RESET)) {
                 if (d.payload[NUMBER] == s.next) {
                     s.state = GONE;
@@ -822,8 +814,7 @@ public final class WireHost {
             return null;
         }
 
-        /** Takes a segment that belongs to no stream. */
-        private void meet(Datagram d, int time) {
+        private void meetStranger(Datagram d, int time) {
             if (d.hasFlag(RESET)) {
                 return;
             }
@@ -854,15 +845,15 @@ public final class WireHost {
             }
         }
 
-        /** Sends what may be sent: whether there was something. */
+        // True if something was sent, for then no ACK alone is due.
         private boolean push(Stream s) {
             boolean pushed = false;
-            int size = s.sendable();
+            int size = s.nextSegmentSize();
             // Each segment takes an octet of OUT at least.
             for (int i = 0; i < OUT_ROOM && size > 0; i++) {
                 send(s, ACK, size);
                 pushed = true;
-                size = s.sendable();
+                size = s.nextSegmentSize();
             }
             if (s.canEnd()) {
                 s.inLength = 0;
@@ -873,7 +864,6 @@ public final class WireHost {
             return pushed;
         }
 
-        /** Sends a segment with so many octets of OUT from the first one that is not sent. */
         private void send(Stream s, int flags, int size) {
             segment[PORT] = s.port;
             segment[NUMBER] = s.sent;
@@ -898,7 +888,7 @@ public final class WireHost {
         }
 
         void runTimer(Stream s) {
-            if (!s.passTick()) {
+            if (!s.tickEndsTimer()) {
                 return;
             }
             if (s.tries >= TOP_TRIES) {

@@ -10,6 +10,7 @@ public final class AssemblyTest {
         protocolOfPlaceZero();
         twoUnitsAtOnce();
         overlaps();
+        behindAWholeOne();
         ends();
         twoAssemblies();
         sameTickOrder();
@@ -121,6 +122,15 @@ public final class AssemblyTest {
         p.datagram(9, MORE + 2, 1, 1, 2, 3, 4);
         Check.due("units side by side", p.host.assembly(0, 3), 6);
         Check.due("nothing of it dropped", p.host.count(2), 0);
+    }
+
+    private static void behindAWholeOne() {
+        Peer p = Peer.known();
+        Check.due("no stream for a segment", p.datagram(1, 0, 6, 20, 0, 0, 16, 0), 1);
+        Check.due("a fragment behind it", p.datagram(9, 1, 1, 1, 2, 3, 4), 0);
+        Check.due("another", p.datagram(9, 128 + 2, 1, 1, 2, 3, 4), 0);
+        Check.due("lost", p.host.assembly(0, 0), 0);
+        Check.due("frames sent", p.host.count(3), 1);
     }
 
     private static void ends() {

@@ -156,6 +156,8 @@ public final class FrameTest {
 
     private static void otherPayloads() {
         Peer p = Peer.known();
+        Check.due("ECHO that is asked", p.datagram(1, 0, 1, 8, 1), 1);
+        Check.due("ECHO without payload behind it", p.datagram(1, 0, 1), 0);
         Check.due("ECHO that is an answer", p.datagram(1, 0, 1, 0, 1), 0);
         Check.due("ECHO with 9", p.datagram(1, 0, 1, 9), 0);
         Check.due("ECHO without payload", p.datagram(1, 0, 1), 0);
@@ -163,7 +165,7 @@ public final class FrameTest {
         Check.due("protocol 17", p.datagram(1, 0, 17, 8), 0);
         Check.due("SEGMENT of 4", p.datagram(1, 0, 6, 20, 0, 0, 2), 0);
         Check.due("SEGMENT of none", p.datagram(1, 0, 6), 0);
-        Check.row("counts", p.countRow(), 0, 8, 0, 0, 0, 0, 0, 0, 0);
+        Check.row("counts", p.countRow(), 0, 10, 0, 1, 1, 0, 0, 0, 0);
     }
 
     private static void framesKept() {

@@ -17,6 +17,8 @@ public final class StreamTest {
         shrunkenWindow();
         fullRows();
         lastAcks();
+        lineWithoutRoom();
+        nothingIsLeft();
         closingAtOnce();
         unfinishedLine();
         closingKeepsOut();
@@ -235,6 +237,29 @@ public final class StreamTest {
         Check.row("RESET", p.sentPayload(0), 20, 6, 0, 4, 0);
     }
 
+    private static void lineWithoutRoom() {
+        Peer p = Peer.open(0);
+        p.store(0, "a", "x");
+        p.text(51, 1, ACK, 0, "\n".repeat(16));
+        p.text(67, 1, ACK, 0, "\n".repeat(15));
+        Check.due("OUT", p.host.stream(0, 6), 62);
+        Check.due("an answer of 3, and one of 2 behind it", p.text(82, 1, ACK, 0, "Ga\n\n"), 1);
+        Check.row("both wait", p.streamRow(0), 2, 3, 20, 86, 1, 1, 62, 4, 0, 2, 0, 0);
+        p.host.erase(0);
+        Check.due("without the text", p.segment(86, 1, ACK, 0), 0);
+        Check.row("one has room", p.streamRow(0), 2, 3, 20, 86, 1, 1, 64, 1, 0, 2, 0, 0);
+    }
+
+    private static void nothingIsLeft() {
+        Peer p = Peer.open(50);
+        p.text(51, 1, ACK, 50, "\n\nGab");
+        p.host.tick(6);
+        Check.row("stream", p.streamRow(0), 2, 3, 20, 56, 1, 5, 4, 3, 50, 1, 1, 2);
+        p.segment(56, 1, RESET, 50);
+        p.segment(56, 1, SYN, 9);
+        Check.row("a new one has nothing of it", p.streamRow(0), 1, 3, 20, 57, 24, 25, 0, 0, 9, 1, 0, 0);
+    }
+
     private static void closingAtOnce() {
         Peer p = Peer.open(0);
         Check.due("FIN at a window of 0", p.segment(51, 1, ACK | FIN, 0), 1);
@@ -279,6 +304,10 @@ public final class StreamTest {
         Check.due("does not count", p.host.stream(0, 4), 253);
         Check.due("an ack at 0", p.segment(1, 0, ACK, 30), 0);
         Check.row("stream", p.streamRow(0), 2, 3, 20, 1, 0, 3, 3, 0, 30, 3, 0, 0);
+        Peer q = Peer.known();
+        q.segment(254, 0, SYN, 30);
+        q.segment(255, 1, ACK | FIN, 30);
+        Check.row("FIN goes round", q.streamRow(0), 4, 3, 20, 0, 1, 2, 0, 0, 30, 2, 0, 0);
     }
 
     private static void unknownAddress() {
