@@ -4,15 +4,21 @@ import java.util.Arrays;
 final class Check {
     private static int wrong = 0;
     private static int looked = 0;
+    private static String sentence = "";
 
     private Check() {
+    }
+
+    /** The words of the document that the checks from here on are about; a wrong answer is told with them. */
+    static void sentence(String words) {
+        sentence = "[" + words + "] ";
     }
 
     static void due(String what, long got, long want) {
         looked++;
         if (got != want) {
             wrong++;
-            System.out.println(what + " answered " + got + ", due is " + want);
+            System.out.println(sentence + what + " answered " + got + ", due is " + want);
         }
     }
 
@@ -20,7 +26,7 @@ final class Check {
         looked++;
         if (!Arrays.equals(got, want)) {
             wrong++;
-            System.out.println(what + " answered " + Arrays.toString(got) + ", due is " + Arrays.toString(want));
+            System.out.println(sentence + what + " answered " + Arrays.toString(got) + ", due is " + Arrays.toString(want));
         }
     }
 
@@ -28,7 +34,7 @@ final class Check {
         looked++;
         if (!held) {
             wrong++;
-            System.out.println("does not hold: " + what);
+            System.out.println(sentence + "does not hold: " + what);
         }
     }
 

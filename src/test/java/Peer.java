@@ -28,6 +28,27 @@ final class Peer {
         return peer;
     }
 
+    /** A peer of a new host that does not know it. */
+    static Peer unknown() {
+        return new Peer(new WireHost());
+    }
+
+    /** A known peer with an open stream of window 0 whose OUT is full: its next number is 83. */
+    static Peer full() {
+        Peer peer = open(0);
+        peer.text(51, 1, ACK, 0, "\n".repeat(16));
+        peer.text(67, 1, ACK, 0, "\n".repeat(16));
+        return peer;
+    }
+
+    /** A known peer, an open stream of the same numbers as open(), and OUT with so many octets (2 to 18) to be sent. */
+    static Peer waiting(int octets) {
+        Peer peer = open(0);
+        peer.store(0, "a", "0123456789abcdef".substring(0, octets - 2));
+        peer.text(51, 1, ACK, 0, "Ga\n");
+        return peer;
+    }
+
     int frame(int... octets) {
         for (int octet : octets) {
             host.octet(octet);
@@ -90,9 +111,11 @@ final class Peer {
     int[] sentFrame(int k) {
         int[] row = new int[64];
         int length = 0;
-        while (length < row.length && host.sent(k, length) >= 0) {
-            row[length] = host.sent(k, length);
+        int v = host.sent(k, 0);
+        while (length < row.length && v >= 0) {
+            row[length] = v;
             length++;
+            v = host.sent(k, length);
         }
         return Arrays.copyOf(row, length);
     }
@@ -101,6 +124,15 @@ final class Peer {
     int[] sentPayload(int k) {
         int[] frame = sentFrame(k);
         return frame.length < 9 ? new int[0] : Arrays.copyOfRange(frame, 9, frame.length);
+    }
+
+    /** How many octets of data each of the latest frames had, the earliest of them first. */
+    int[] sentSizes(int frames) {
+        int[] sizes = new int[frames];
+        for (int k = 0; k < frames; k++) {
+            sizes[frames - 1 - k] = sentPayload(k).length - 5;
+        }
+        return sizes;
     }
 
     int[] streamRow(int s) {

@@ -7,6 +7,7 @@ public final class TextTest {
         erasing();
         answers();
         lines();
+        linesWithoutEnd();
         spoiledAnswers();
         Check.end();
     }
@@ -111,6 +112,11 @@ public final class TextTest {
         Check.row("a great letter", answer(p, "GA\n"), 48, 10);
         Check.row("96", answer(p, "G`\n"), 48, 10);
         Check.row("123", answer(p, "G{\n"), 48, 10);
+    }
+
+    private static void linesWithoutEnd() {
+        Peer p = Peer.open(100);
+        p.store(0, "a", "A");
         Check.row("six octets are no line", answer(p, "Gaaaaa"));
         Check.due("IN", p.host.stream(0, 7), 6);
         Check.row("seven without an end are", answer(p, "a"), 48, 10);
